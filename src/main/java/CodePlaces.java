@@ -54,8 +54,8 @@ public final class CodePlaces {
     private final Finder finder = new Finder();
     private final Draws draws = new Draws();
     private final Sentence sentence = new Sentence();
-    private final UnitReader unitReader = new UnitReader(tokens);
-    private final SentenceReader sentenceReader = new SentenceReader(tokens);
+    private final UnitReader unitReader = new UnitReader();
+    private final SentenceReader sentenceReader = new SentenceReader();
     private final Book book = new Book();
     private final Packer packer = new Packer();
     private final Unit[] keptUnits = new Unit[2];
@@ -100,7 +100,7 @@ public final class CodePlaces {
     }
 
     public int unit() {
-        int lines = unitReader.readUnit();
+        int lines = unitReader.readUnit(tokens);
         tokens.length = 0;
         if (tokens.fault != 0) {
             return -1 - tokens.place;
@@ -507,7 +507,7 @@ public final class CodePlaces {
     }
 
     public int sentence() {
-        int ones = sentenceReader.readSentence(unit);
+        int ones = sentenceReader.readSentence(tokens, unit);
         tokens.length = 0;
         if (tokens.fault != 0) {
             return -1 - tokens.place;
@@ -1040,17 +1040,12 @@ public final class CodePlaces {
     private static final class UnitReader {
         static final int MOST_BYTES = 900;
 
-        private final Tokens tokens;
         final Unit draft = new Unit();
         private int lines = 0;
         private int depth = 0;
 
-        UnitReader(Tokens tokens) {
-            this.tokens = tokens;
-        }
-
         /** How many LINES; of no meaning with a FAULT. */
-        int readUnit() {
+        int readUnit(Tokens tokens) {
             draft.makeEmpty();
             lines = 0;
             tokens.begin(MOST_BYTES);
@@ -1058,22 +1053,22 @@ public final class CodePlaces {
                 boolean isRead;
                 switch (tokens.wordHere()) {
                     case SIZE:
-                        isRead = readSize();
+                        isRead = readSize(tokens);
                         break;
                     case ROW:
-                        isRead = readRow();
+                        isRead = readRow(tokens);
                         break;
                     case SCOPE:
-                        isRead = readScope();
+                        isRead = readScope(tokens);
                         break;
                     case TYPE:
-                        isRead = readType();
+                        isRead = readType(tokens);
                         break;
                     case VAR:
-                        isRead = readVar();
+                        isRead = readVar(tokens);
                         break;
                     case WHERE:
-                        isRead = readPlace();
+                        isRead = readPlace(tokens);
                         break;
                     default:
                         isRead = tokens.fail(1);
@@ -1087,7 +1082,7 @@ public final class CodePlaces {
             return lines;
         }
 
-        private boolean readSize() {
+        private boolean readSize(Tokens tokens) {
             if (lines > 0) {
                 return tokens.fail(3);
             }
@@ -1101,7 +1096,7 @@ public final class CodePlaces {
         }
 
         /** Whether one more LINE of a sort may come: goes on behind its first WORD. */
-        private boolean beginSort(Table table) {
+        private boolean beginSort(Tokens tokens, Table table) {
             if (table.isFull()) {
                 return tokens.fail(4);
             }
@@ -1109,8 +1104,8 @@ public final class CodePlaces {
             return true;
         }
 
-        private boolean readRow() {
-            if (!beginSort(draft.rows) || !tokens.needsNumber(0, draft.size - 1)) {
+        private boolean readRow(Tokens tokens) {
+            if (!beginSort(tokens, draft.rows) || !tokens.needsNumber(0, draft.size - 1)) {
                 return false;
             }
             int a = tokens.number;
@@ -1126,7 +1121,7 @@ public final class CodePlaces {
             return true;
         }
 
-        private boolean readNewName(Table table) {
+        private boolean readNewName(Tokens tokens, Table table) {
             if (!tokens.needsName()) {
                 return false;
             }
@@ -1139,7 +1134,7 @@ public final class CodePlaces {
         }
 
         /** The number of a NAME that is told in a table; NONE with a FAULT. */
-        private int readToldName(Table table) {
+        private int readToldName(Tokens tokens, Table table) {
             if (!tokens.needsName()) {
                 return NONE;
             }
@@ -1153,7 +1148,7 @@ public final class CodePlaces {
         }
 
         /** FROM, and the TO is read then, but not passed: more FAULTS may be at it. */
-        private boolean readRange(Table table, int k) {
+        private boolean readRange(Tokens tokens, Table table, int k) {
             if (!tokens.needsNumber(0, draft.size - 1)) {
                 return false;
             }
@@ -1167,9 +1162,9 @@ public final class CodePlaces {
             return true;
         }
 
-        private boolean readScope() {
+        private boolean readScope(Tokens tokens) {
             int k = draft.scopes.count;
-            if (!beginSort(draft.scopes) || !readNewName(draft.scopes) || !readRange(draft.scopes, k)) {
+            if (!beginSort(tokens, draft.scopes) || !readNewName(tokens, draft.scopes) || !readRange(tokens, draft.scopes, k)) {
                 return false;
             }
             if (draft.cutsScope(draft.scopes.at(k, Unit.FROM), draft.scopes.at(k, Unit.TO))) {
@@ -1185,9 +1180,9 @@ public final class CodePlaces {
             return true;
         }
 
-        private boolean readType() {
+        private boolean readType(Tokens tokens) {
             int k = draft.types.count;
-            if (!beginSort(draft.types) || !readNewName(draft.types) || !tokens.needsNumber(0, 15)) {
+            if (!beginSort(tokens, draft.types) || !readNewName(tokens, draft.types) || !tokens.needsNumber(0, 15)) {
                 return false;
             }
             int first = tokens.number;
@@ -1207,33 +1202,33 @@ public final class CodePlaces {
             return true;
         }
 
-        private boolean readVar() {
+        private boolean readVar(Tokens tokens) {
             int k = draft.vars.count;
-            if (!beginSort(draft.vars) || !readNewName(draft.vars)) {
+            if (!beginSort(tokens, draft.vars) || !readNewName(tokens, draft.vars)) {
                 return false;
             }
-            int scope = readToldName(draft.scopes);
+            int scope = readToldName(tokens, draft.scopes);
             if (scope == NONE) {
                 return false;
             }
-            int type = readToldName(draft.types);
+            int type = readToldName(tokens, draft.types);
             draft.vars.put(k, Unit.HOME, scope);
             draft.vars.put(k, Unit.KIND, type);
             return type != NONE;
         }
 
-        private boolean readPlace() {
-            if (!beginSort(draft.places)) {
+        private boolean readPlace(Tokens tokens) {
+            if (!beginSort(tokens, draft.places)) {
                 return false;
             }
-            int v = readToldName(draft.vars);
+            int v = readToldName(tokens, draft.vars);
             if (v == NONE) {
                 return false;
             }
             int k = draft.places.add(0L);
             // it is nobody's until its range has been judged, so that it does not stand in its own way
             draft.places.put(k, Unit.OWNER, NONE);
-            if (!readRange(draft.places, k)) {
+            if (!readRange(tokens, draft.places, k)) {
                 return false;
             }
             if (draft.isPlaceTaken(v, draft.places.at(k, Unit.FROM), draft.places.at(k, Unit.TO))) {
@@ -1242,11 +1237,11 @@ public final class CodePlaces {
             draft.places.put(k, Unit.OWNER, v);
             draft.places.put(k, Unit.STEPS, 0);
             tokens.advance();
-            return tokens.wordHere() == IN ? readRegister(k) : readOps(k);
+            return tokens.wordHere() == IN ? readRegister(tokens, k) : readOps(tokens, k);
         }
 
         /** The word is the register: the same as its 'reg' with 'value'. */
-        private boolean readRegister(int k) {
+        private boolean readRegister(Tokens tokens, int k) {
             tokens.advance();
             if (!tokens.needsNumber(0, Machine.REGISTERS - 1)) {
                 return false;
@@ -1257,10 +1252,10 @@ public final class CodePlaces {
             return true;
         }
 
-        private boolean readOps(int k) {
+        private boolean readOps(Tokens tokens, int k) {
             depth = 0;
             draft.places.put(k, Unit.DIRECT, 0);
-            if (!readOp(k)) {
+            if (!readOp(tokens, k)) {
                 return false;
             }
             for (int i = 0; i <= Unit.OPS && !tokens.isSign(';'); i++) {
@@ -1269,14 +1264,14 @@ public final class CodePlaces {
                     tokens.advance();
                     return true;
                 }
-                if (!readOp(k)) {
+                if (!readOp(tokens, k)) {
                     return false;
                 }
             }
             return true;
         }
 
-        private boolean readOp(int k) {
+        private boolean readOp(Tokens tokens, int k) {
             int op = tokens.kind == Tokens.DIGITS ? Unit.PUSH : tokens.wordHere();
             int needs = needsOf(op);
             if (needs == NONE) {
@@ -1827,30 +1822,25 @@ public final class CodePlaces {
         static final int MOST_ONES = 20;
         static final int MOST_DEPTH = 8;
 
-        private final Tokens tokens;
         final Sentence draft = new Sentence();
         private int ones = 0;
 
-        SentenceReader(Tokens tokens) {
-            this.tokens = tokens;
-        }
-
         /** How many ONES; of no meaning with a FAULT. */
-        int readSentence(Unit unit) {
+        int readSentence(Tokens tokens, Unit unit) {
             draft.forget();
             ones = 0;
             tokens.begin(MOST_BYTES);
-            if (readCond(unit, 1) && tokens.kind != Tokens.END) {
+            if (readCond(tokens, unit, 1) && tokens.kind != Tokens.END) {
                 tokens.fail(1);
             }
             return ones;
         }
 
-        private boolean readCond(Unit unit, int depth) {
+        private boolean readCond(Tokens tokens, Unit unit, int depth) {
             boolean isAll = false;
             boolean isMore = false;
             for (int i = 0; i <= MOST_ONES; i++) {
-                if (!readOne(unit, depth)) {
+                if (!readOne(tokens, unit, depth)) {
                     return false;
                 }
                 if (isAll) {
@@ -1869,7 +1859,7 @@ public final class CodePlaces {
             return tokens.fail(4);
         }
 
-        private boolean readOne(Unit unit, int depth) {
+        private boolean readOne(Tokens tokens, Unit unit, int depth) {
             int word = tokens.wordHere();
             boolean bracket = tokens.isSign('(');
             if (!bracket && !isFirstWord(word)) {
@@ -1881,10 +1871,10 @@ public final class CodePlaces {
             ones++;
             tokens.advance();
             if (bracket) {
-                return readCond(unit, depth + 1) && tokens.passSign(')');
+                return readCond(tokens, unit, depth + 1) && tokens.passSign(')');
             }
             if (word == NOT) {
-                boolean read = readOne(unit, depth + 1);
+                boolean read = readOne(tokens, unit, depth + 1);
                 draft.add(NOT, 0, 0);
                 return read;
             }
@@ -1892,7 +1882,7 @@ public final class CodePlaces {
                 draft.add(word, 0, 0);
                 return true;
             }
-            return word == WITHIN ? readScopeName(unit) : readCompared(word);
+            return word == WITHIN ? readScopeName(tokens, unit) : readCompared(tokens, word);
         }
 
         private static boolean isFirstWord(int word) {
@@ -1912,7 +1902,7 @@ public final class CodePlaces {
             }
         }
 
-        private boolean readScopeName(Unit unit) {
+        private boolean readScopeName(Tokens tokens, Unit unit) {
             if (!tokens.needsName()) {
                 return false;
             }
@@ -1925,7 +1915,7 @@ public final class CodePlaces {
             return true;
         }
 
-        private boolean readCompared(int word) {
+        private boolean readCompared(Tokens tokens, int word) {
             if (!tokens.isSign('<') && !tokens.isSign('=') && !tokens.isSign('>')) {
                 return tokens.fail(1);
             }
