@@ -272,6 +272,11 @@ public final class PromiseTests {
         Bench.unitFault(where + "1 1 plus 1 plus 1 plus 1 plus;", at + 25, 4);
         Bench.unitFault(where + "1 load load load load load load load plus;", at + 37, 4);
         Bench.unitFault(where + "1 2 3 4 5 6 7 8 with;", at + 16, 1);
+        Bench.unitFault(HEAD + "where v 0 1 1 2 3;where v 1 2 1 plus;", HEAD.length() + 32, 5);
+        // the first of two
+        Bench.unitFault(where + "reg 8 foo;", at + 4, 2);
+        Bench.unitFault(where + "in 8 foo;", at + 3, 2);
+        Bench.unitFault("row 0 0;row 0 0;row;", 6, 2);
         due("8 OPS and value", Bench.unit(where + "1 reg 2 3 4 5 6 7 8 value;").value(0, 0), 8);
         due("1 dup plus", Bench.unit(where + "1 dup plus value;").value(0, 0), 2);
     }
@@ -487,6 +492,8 @@ public final class PromiseTests {
 
     private static void setAndPoke() {
         CodePlaces x = new CodePlaces();
+        due("poke place 0", x.poke(0, 5), 0);
+        due("poke 0", x.poke(0, 0), 0);
         due("set", x.set(7, 65535), 0);
         due("register", x.register(7), 65535);
         due("set so", x.set(7, 65535), 1);
@@ -506,7 +513,7 @@ public final class PromiseTests {
         due("poke above", x.poke(0, 65536), NONE);
         due("memory 64", x.memory(64), NONE);
         due("memory -1", x.memory(-1), NONE);
-        due("deeds", x.now(5), 2);
+        due("deeds", x.now(5), 4);
     }
 
     // ---- 22 to 24 ----
@@ -744,6 +751,9 @@ public final class PromiseTests {
         due("line", x.unpackedAt(0, 1), 250);
         due("address", x.unpackedAt(1, 0), 21);
         due("line", x.unpackedAt(1, 1), 246);
+        Bench.tape(x, 3, 128, 0, 3, 127, 255, 3, 0, 5, 1, 0);
+        due("less 32768", x.unpacked(), 1);
+        due("line", x.unpackedAt(0, 1), 5);
         Bench.tape(x, 0);
         due("no rows", x.unpacked(), 0);
         due("none of it", x.unpackedAt(0, 0), NONE);
@@ -765,6 +775,8 @@ public final class PromiseTests {
         due("longest", x.longest(), 10);
         due("longest of two rows", Bench.unit("size 9;row 1 8;row 3 6;row 7 8;").longest(), 6);
         due("longest of like ones", Bench.unit("size 9;row 1 8;row 5 6;").longest(), 6);
+        due("longest of one", Bench.unit("size 1;row 0 1;").longest(), 1);
+        due("longest of the last line", Bench.unit("row 0 250;").longest(), 250);
         due("longest without rows", new CodePlaces().longest(), NONE);
     }
 
@@ -947,6 +959,14 @@ public final class PromiseTests {
         due("deeds", x.now(5), 3);
         due("undo", x.undo(), 0);
         due("register", x.register(1), 0);
+        due("one LINE", Bench.book(x, "set 0 1;", 1), NONE);
+        due("register", x.register(0), 1);
+        due("undo it", x.undo(), 0);
+        due("the ends of all", Bench.book(x, "set 0 999;set 7 0;", 1), 1);
+        due("the ends of memory", Bench.book(x, "poke 0 9;poke 63 999;", 1), NONE);
+        due("memory", x.memory(63), 999);
+        x.undo();
+        x.undo();
         due("40 LINES", Bench.book(x, "set 1 1;set 1 2;".repeat(20), 1), NONE);
         due("lines ahead", x.told(1), 40);
         due("deeds", x.now(5), 40);
