@@ -395,6 +395,20 @@ public final class StateEdgeTests {
         due("fault", x.fault(), 1);
         due("empty book again", x.book(0), NONE);
         due("no fault", x.fault(), 0);
+        // each of the three ends the FAULT of each other
+        due("book with a FAULT", Bench.book(x, "set 8 1;", 0), -6);
+        due("fault", x.fault(), 2);
+        due("sentence", Bench.sentence(x, "there"), 1);
+        due("no fault", x.fault(), 0);
+        due("sentence with a FAULT", Bench.sentence(x, "within s"), -8);
+        due("fault", x.fault(), 3);
+        due("unit", x.unit(), 0);
+        due("no fault", x.fault(), 0);
+        Bench.tape(x, "where");
+        due("unit with a FAULT", x.unit(), -6);
+        due("fault", x.fault(), 1);
+        due("sentence", Bench.sentence(x, "there"), 1);
+        due("no fault", x.fault(), 0);
     }
 
     // ---- "A new UNIT: the machine as at first, no SENTENCE; nothing can be undone (what other calls told last stays)" ----
