@@ -177,6 +177,14 @@ public final class AnswerEdgeTests {
         valued("2 3 4 swap value", 3);
         valued("2 3 4 swap minus value", 1);
         valued("5 dup dup plus minus value", 65531);
+        // what is below those that an OP takes stays as it is
+        valued("1 2 dup plus plus value", 5);
+        valued("9 2 dup times minus value", 5);
+        valued("1 7 3 swap minus minus value", 5);
+        valued("1 5 load minus value", 64532);
+        valued("1 2 3 plus minus value", 65532);
+        valued("2 3 4 times minus value", 65526);
+        valued("1 2 reg 6 minus minus value", 62);
         valued("0 value", 0);
         valued("999 value", 999);
         valued("0", 1000);

@@ -212,6 +212,12 @@ public final class StateEdgeTests {
         for (int i = 0; i < none.length; i++) {
             due("NONE behind the last " + i, none[i], NONE);
         }
+        for (int what = -1; what <= 6; what++) {
+            due("row 6 " + what, x.row(6, what), NONE);
+            due("scope 3 " + what, x.scope(3, what), NONE);
+            due("var 3 " + what, x.var(3, what), NONE);
+            due("unpackedAt 2 " + what, x.unpackedAt(2, what), NONE);
+        }
         // the last that there is
         int[] last = {x.row(5, 2), x.scope(2, 4), x.var(2, 5), x.placeOf(2, 15), x.lineAt(39), x.addressOf(10, 1), x.chainAt(2), x.chainLine(2),
             x.why(2, 39), x.now(5), x.register(7), x.memory(63), x.packedAt(15), x.unpackedAt(1, 1), x.byteAt(14), x.told(3), x.count(6),
@@ -231,6 +237,12 @@ public final class StateEdgeTests {
             x.odds(w, 1, 1), x.odds(0, w, 1), x.drawn(w, 1), x.told(w), x.count(w), w == -1 ? NONE : x.said(w)};
         for (int i = 0; i < none.length; i++) {
             due("NONE " + i + " of " + w, none[i], NONE);
+        }
+        for (int what = -1; what <= 6; what++) {
+            due("row " + w + " " + what, x.row(w, what), NONE);
+            due("scope " + w + " " + what, x.scope(w, what), NONE);
+            due("var " + w + " " + what, x.var(w, what), NONE);
+            due("unpackedAt " + w + " " + what, x.unpackedAt(w, what), NONE);
         }
         due("value of VAR " + w, Bench.answer(() -> x.value(w, 0)), Bench.THROWN);
         due("value at " + w, Bench.answer(() -> x.value(0, w)), Bench.THROWN);
